@@ -954,7 +954,12 @@ public final class NearPhrases {
                 for (int j = 0; j < other.length; j++) {
                     int above = edits[j + 1];
                     int least = one.letters[i] == other.letters[j] ? corner : corner + 1;
-                    least = Math.min(least, Math.min(above, edits[j]) + 1);
+                    if (above < least) {
+                        least = above + 1;
+                    }
+                    if (edits[j] < least) {
+                        least = edits[j] + 1;
+                    }
                     edits[j + 1] = least;
                     corner = above;
                 }

@@ -6,6 +6,8 @@ public final class QuestionTest {
     public static void main(String[] args) {
         near();
         nearFollowsChanges();
+        nearWhenFull();
+        tagStepsAtTheLeastWeight();
         matchAtTheBound();
         canByLengthsAtTheEdge();
         canByGramsAtTheEdge();
@@ -60,6 +62,28 @@ public final class QuestionTest {
         dueNear(x, 0, 10, 20, 500, 0, 1, 6, 1, 1, 0, 0);
         Check.keep(x, "a");
         dueNear(x, 1, 0, 20, 1000, 2, 1, 6, 1, 1, 1, 0);
+    }
+
+    private static void nearWhenFull() {
+        NearPhrases x = new NearPhrases();
+        for (int i = 0; i < 12; i++) {
+            Check.keep(x, "" + (char) ('a' + i));
+        }
+        Check.ask(x, "l");
+        dueNear(x, 10, 10, 20, 500, 0, 1, 6, 1, 1, 0, 0);
+        dueNear(x, 11, 0, 20, 1000, 2, 1, 6, 1, 1, 1, 0);
+        dueRanks(x, 11);
+        x.bound(0);
+        dueRanks(x, 11, 0, 1, 2, 3, 4, 5, 6, 7, 8, 9, 10);
+        dueQuestion(x, 1, 1, 0, 2, 10, 12, 12, 12, 12, 1);
+    }
+
+    private static void tagStepsAtTheLeastWeight() {
+        NearPhrases x = Check.with("[1] [2] a", "a [3]");
+        x.weight(1);
+        Check.ask(x, "[1] [3] a");
+        dueNear(x, 0, 1, 24, 958, 2, 3, 7, 1, 1, 1, 1);
+        dueNear(x, 1, 3, 23, 869, 2, 4, 6, 1, 1, 1, 3);
     }
 
     private static void matchAtTheBound() {

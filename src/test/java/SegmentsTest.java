@@ -13,7 +13,9 @@ public final class SegmentsTest {
         two();
         twoOfTagsAndOrders();
         twoBothWays();
+        scoreIsRoundedUp();
         shared();
+        rowsUsedAgain();
         twoRefusals();
         gram();
         gramRefusals();
@@ -177,6 +179,41 @@ public final class SegmentsTest {
         due("ba ab, abab", x.two(4, 5, 3), 4);
         due("abab, ba ab", x.two(5, 4, 3), 4);
         due("abab, abab", x.two(5, 5, 3), 5);
+    }
+
+    /** 8000 by 27 leaves 8, 1000 by 3 leaves 1: the least rest rounds the quotient up, too. */
+    private static void scoreIsRoundedUp() {
+        NearPhrases x = Check.with("abcdefghij [1]", "abcdefghix", "abcdefghij");
+        x.weight(7);
+        dueTwo(x, 0, 1, 8, 27, 703, 9, 2);
+        dueTwo(x, 0, 2, 7, 27, 740, 11, 2);
+        NearPhrases y = Check.with("[1] [1] [1]", "[2] [2] [1] [1] [1] [1]");
+        y.weight(1);
+        dueTwo(y, 0, 1, 3, 9, 666, 0, 6);
+        NearPhrases z = Check.with("[1]", "[1] [1]");
+        z.weight(1);
+        dueTwo(z, 0, 1, 1, 3, 666, 0, 2);
+        dueTwo(z, 1, 0, 1, 3, 666, 0, 2);
+    }
+
+    /** What a longer one has left in the rows must not be seen any more. */
+    private static void rowsUsedAgain() {
+        NearPhrases x = Check.with("zzzzzzzzzzzz b [1] c d e f g", "abcdefghijkl [2]");
+        due("the same of eight signs", Check.keep(x, "zzzzzzzzzzzz b [1] c d e f g"), 0);
+        due("the same of twelve letters", Check.keep(x, "abcdefghijkl [2]"), 1);
+        x.drop(0);
+        x.drop(0);
+        due("shorter, in used rows", Check.keep(x, "ab"), 0);
+        due("shorter, in used rows, too", Check.keep(x, "zz"), 1);
+        due("the same as the first", Check.keep(x, "ab"), 0);
+        due("the same as the second", Check.keep(x, "zz"), 1);
+        dueTwo(x, 0, 1, 10, 20, 500, 0, 1);
+        due("count(7)", x.count(7), 6);
+        x.drop(1);
+        due("count(7) behind a drop", x.count(7), 3);
+        x.drop(0);
+        due("count(7) of none", x.count(7), 0);
+        due("gram(zz) of none", x.gram('z', 'z'), 0);
     }
 
     private static void twoRefusals() {
