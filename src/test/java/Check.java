@@ -1,3 +1,4 @@
+import java.util.ArrayList;
 import java.util.List;
 
 /** What the tests share: comparing an answer with the one that is due, and typing texts. */
@@ -30,6 +31,10 @@ final class Check {
         return wrong;
     }
 
+    int asked() {
+        return asked;
+    }
+
     void end() {
         System.out.println(test + ": " + asked + " looked at, " + wrong + " wrong");
         if (wrong != 0) {
@@ -53,11 +58,32 @@ final class Check {
         return x.ask();
     }
 
+    /** What keep() answers to a text that comes to a new object. */
+    static int keepAlone(String text) {
+        return keep(new NearPhrases(), text);
+    }
+
     static NearPhrases with(String... texts) {
         NearPhrases x = new NearPhrases();
         for (String text : texts) {
             keep(x, text);
         }
+        return x;
+    }
+
+    /** "a" to "l" are kept, each a segment of its own. */
+    static NearPhrases withTwelve() {
+        NearPhrases x = new NearPhrases();
+        for (int i = 0; i < 12; i++) {
+            x.letter('a' + i);
+            x.keep();
+        }
+        return x;
+    }
+
+    static NearPhrases asking(String question, String... texts) {
+        NearPhrases x = with(texts);
+        ask(x, question);
         return x;
     }
 
@@ -68,6 +94,14 @@ final class Check {
             kinds.append(x.step(segment, k, 0));
         }
         return kinds.toString();
+    }
+
+    static long foldOf(int... numbers) {
+        List<Long> longs = new ArrayList<>();
+        for (int number : numbers) {
+            longs.add((long) number);
+        }
+        return fold(longs);
     }
 
     static long fold(List<Long> numbers) {
