@@ -171,10 +171,31 @@ public final class EdgesOfAllTest {
         due("count(7), in none", x.count(7), 0);
         Check.keep(x, "az za");
         due("count(7) of ^a, az, z$, ^z, za, a$", x.count(7), 6);
+        gramsInRowsUsedAgain();
         NearPhrases full = Check.withTwelve();
         due("count(7) of twelve", full.count(7), 24);
         Check.keep(full, "xyz");
         due("count(7) behind FULL", full.count(7), 24);
+    }
+
+    /** A segment of few grams comes where one of many stood: those of the old one count for nothing. */
+    private static void gramsInRowsUsedAgain() {
+        NearPhrases x = Check.with("mnop");
+        x.drop(0);
+        Check.keep(x, "a");
+        due("count(7) of few behind many", x.count(7), 2);
+        Check.keep(x, "opm");
+        due("count(7) of both", x.count(7), 6);
+        x.drop(0);
+        due("count(7) of the second", x.count(7), 4);
+        for (int code = 'm'; code <= 'p'; code++) {
+            due("gram(^, " + code + ")", x.gram('^', code), code == 'o' ? 1 : 0);
+            due("gram(" + code + ", $)", x.gram(code, '$'), code == 'm' ? 1 : 0);
+        }
+        due("gram(op)", x.gram('o', 'p'), 1);
+        due("gram(pm)", x.gram('p', 'm'), 1);
+        due("gram(mn)", x.gram('m', 'n'), 0);
+        due("gram(no)", x.gram('n', 'o'), 0);
     }
 
     private static void countOutside() {

@@ -126,6 +126,12 @@ public final class EdgesOfQuestionTest {
         dueStepsOfTags(EIGHT_TAGS, EIGHT_TAGS, 1, 0);
         dueStepsOfTags("[1] [2] [3] [4] [5] [6] [7] [8]", "[8] [7] [6] [5] [4] [3] [2] [1]", 1, 8);
         dueStepsOfTags("[1] [1] a", "[2] b [2]", 5, 3);
+        NearPhrases x = Check.asking(EIGHT_WORDS, EIGHT_TAGS);
+        due("near(0, 9) of eight words", x.near(0, 9), 8);
+        Check.ask(x, "[1]");
+        due("near(0, 9) of one tag", x.near(0, 9), 7);
+        Check.ask(x, EIGHT_TAGS);
+        due("near(0, 9) of the same", x.near(0, 9), 0);
     }
 
     private static void dueStepsOfTags(String segment, String question, int weight, int want) {

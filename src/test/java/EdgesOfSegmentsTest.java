@@ -146,6 +146,15 @@ public final class EdgesOfSegmentsTest {
         }
         due("digit of [8]", x.sign(1, 0, 1), 8);
         due("digit of a word", x.sign(1, 1, 1), 0);
+        x.drop(0);
+        x.drop(0);
+        Check.keep(x, "a b c d e f g h");
+        Check.keep(x, "i j");
+        for (int sign = 0; sign < 8; sign++) {
+            due("digit of word " + sign + " in a row that had tags", x.sign(0, sign, 1), 0);
+        }
+        due("digit of a word in the other row", x.sign(1, 0, 1), 0);
+        due("kept already, in rows that had tags", Check.keep(x, "i j"), 1);
     }
 
     /** The same row is read into again: a shorter word and a tag come where the longest word stood. */

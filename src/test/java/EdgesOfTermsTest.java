@@ -30,15 +30,20 @@ public final class EdgesOfTermsTest {
         edges.sentence("L is the least number of letters that have to be put in, left out, or put in the place of "
                 + "another one, one by one, to make the one the other one", EdgesOfTermsTest::leastNumberOfLetters);
         edges.sentence("M how many letters the longer one has", EdgesOfTermsTest::longerOne);
+        edges.sentence("FAR of two SEGMENTS: the least cost of making the one the other one", EdgesOfTermsTest::leastCost);
         edges.sentence("by STEPS, one behind the other, till both are at their ends", EdgesOfTermsTest::tillTheEnds);
+        edges.sentence("0 BOTH (the next SIGN of each; two WORDS: ALIKE", EdgesOfTermsTest::bothOfWords);
         edges.sentence("two TAGS: 0, if they are the same, else WEIGHT", EdgesOfTermsTest::bothOfTags);
         edges.sentence("never a WORD and a TAG", EdgesOfTermsTest::neverAWordAndATag);
+        edges.sentence("1 OUT (the next SIGN of the one; what it costs), 2 IN (the next SIGN of the other one; what it costs)",
+                EdgesOfTermsTest::outAndIn);
         edges.sentence("of several rows of STEPS that which has the lesser STEP at the first place where they are unlike",
                 EdgesOfTermsTest::lesserStepAtTheFirstPlace);
         edges.sentence("ALL of two SEGMENTS: what all SIGNS of both cost, together.", EdgesOfTermsTest::leastAndMostOfAll);
         edges.sentence("SCORE: 1000 less (1000 * FAR) / ALL, rounded up (the quotient).",
                 EdgesOfTermsTest::scoreIsRounded);
         edges.sentence("a score that is the same both ways", EdgesOfTermsTest::scoreBothWays);
+        edges.sentence("its letters with \"^\" ahead of them and \"$\" behind them", EdgesOfTermsTest::edgesOfAWord);
         edges.sentence("all two that stand side by side (one more than it has letters)",
                 EdgesOfTermsTest::oneGramMoreThanLetters);
         edges.sentence("of a SEGMENT: those of all its WORDS, as often as they are there",
@@ -52,6 +57,8 @@ public final class EdgesOfTermsTest {
         edges.sentence("if its SCORE with THE QUESTION is BOUND or more", EdgesOfTermsTest::scoreAtTheBound);
         edges.sentence("(0 to 1000; 700 at first)", EdgesOfTermsTest::boundAtFirst);
         edges.sentence("ROOM: (1000 - BOUND) * ALL / 1000 (rounded down).", EdgesOfTermsTest::roomIsRoundedDown);
+        edges.sentence("10 * (by how many WORDS more the one has) + WEIGHT * (by how many TAGS more the one has)",
+                EdgesOfTermsTest::wordsAndTagsMore);
         edges.sentence("is ROOM or less", EdgesOfTermsTest::lengthsAtTheRoom);
         edges.sentence("whichever has more of each", EdgesOfTermsTest::whicheverHasMore);
         edges.sentence("is 12 * ROOM or less", EdgesOfTermsTest::gramsAtTheRoom);
@@ -276,6 +283,36 @@ public final class EdgesOfTermsTest {
         dueFar("[1] [2] [3] [4] [5] [6] [7] [8]", "a b c d e f g h", 20, 240, 16);
     }
 
+    /** The dearest BOTH, of words with nothing alike, is cheaper than OUT and IN. */
+    private static void leastCost() {
+        dueFar("a", "b", 5, 10, 1);
+        dueFar("a b", "b a", 5, 20, 2);
+        dueFar("a b c", "b c a", 5, 20, 4);
+        dueFar("abcdefghijkl a", "a abcdefghijkl", 5, 20, 2);
+        dueFar("a [1] b [2]", "[2] a [1] b", 1, 2, 5);
+        dueFar("[1] a [2] b", "a [1] b [2]", 20, 30, 5);
+        dueFar("[1] a [2] b", "a [1] b [2]", 4, 12, 5);
+    }
+
+    private static void bothOfWords() {
+        dueFar("abcdefghijkl", "abcdefghijkl", 5, 0, 1);
+        dueFar("abcdefghijkl", "abcdefghijkx", 5, 1, 1);
+        dueFar("abcdefghijkl", "abcdefghijxx", 5, 2, 1);
+        dueFar("abcdefghijkl", "a", 5, 10, 1);
+        dueFar("cat cats", "cats cat", 5, 6, 2);
+    }
+
+    private static void outAndIn() {
+        for (int weight : new int[] {1, 5, 20}) {
+            dueFar("a [1]", "a", weight, weight, 2);
+            dueFar("a", "a [1]", weight, weight, 2);
+            dueFar("a [1]", "[1]", weight, 10, 2);
+            dueFar("[1]", "a [1]", weight, 10, 2);
+        }
+        dueFar("a abcdefghijkl", "a", 5, 10, 2);
+        dueFar("a", "a abcdefghijkl", 5, 10, 2);
+    }
+
     private static void bothOfTags() {
         for (int weight : new int[] {1, 5, 20}) {
             dueFar("[1]", "[1]", weight, 0, 1);
@@ -367,6 +404,19 @@ public final class EdgesOfTermsTest {
         due("grams of \"" + text + "\"", Check.with(text).segment(0, 3), want);
     }
 
+    private static void edgesOfAWord() {
+        NearPhrases x = Check.with("ab", "c");
+        due("gram(^a)", x.gram('^', 'a'), 1);
+        due("gram(b$)", x.gram('b', '$'), 1);
+        due("gram(^b)", x.gram('^', 'b'), 0);
+        due("gram(a$)", x.gram('a', '$'), 0);
+        due("gram(^c)", x.gram('^', 'c'), 1);
+        due("gram(c$)", x.gram('c', '$'), 1);
+        dueShared("ab", "ac", 1);
+        dueShared("ab", "cb", 1);
+        dueShared("ab", "bab", 2);
+    }
+
     private static void oneGramMoreThanLetters() {
         String word = "abcdefghijkl";
         for (int length = 1; length <= 12; length++) {
@@ -409,6 +459,21 @@ public final class EdgesOfTermsTest {
         dueShared("ab", "xab", 2);
         dueShared("aaaaaaaaaaaa aaaaaaaaaaaa aaaaaaaaaaaa aaaaaaaaa", "aaaaaaaaaaaa aaaaaaaaaaaa aaaaaaaaaaaa a a a a a",
                 41);
+        sharedInRowsUsedAgain();
+    }
+
+    /** "a" comes where "mnop" stood, whose gram "no" is not there any more. */
+    private static void sharedInRowsUsedAgain() {
+        NearPhrases x = Check.with("mnop");
+        x.drop(0);
+        Check.keep(x, "a");
+        Check.keep(x, "no");
+        due("two(0, 1, 3) in a row used again", x.two(0, 1, 3), 0);
+        due("two(1, 0, 3) in a row used again", x.two(1, 0, 3), 0);
+        Check.ask(x, "mnop");
+        due("near(1, 3)", x.near(1, 3), 1);
+        Check.ask(x, "a");
+        due("near(1, 3) of another question", x.near(1, 3), 0);
     }
 
     // ---- the question
@@ -504,6 +569,23 @@ public final class EdgesOfTermsTest {
         dueNear(same, 0, 6, 1);
     }
 
+    /** Two words and three tags more. */
+    private static void wordsAndTagsMore() {
+        NearPhrases x = Check.asking("c", "a b c [1] [2] [3]");
+        int[] weights = {5, 1, 20};
+        int[] all = {55, 43, 100};
+        int[] more = {35, 23, 80};
+        for (int i = 0; i < weights.length; i++) {
+            x.weight(weights[i]);
+            due("all at weight " + weights[i], x.near(0, 1), all[i]);
+            for (int bound = 0; bound <= 1000; bound += 25) {
+                x.bound(bound);
+                int room = (1000 - bound) * all[i] / 1000;
+                due("lengths at weight " + weights[i] + ", bound " + bound, x.near(0, 6), more[i] <= room ? 1 : 0);
+            }
+        }
+    }
+
     private static void whicheverHasMore() {
         String[][] texts = {{"a b [1]", "c"}, {"c", "a b [1]"}, {"a b", "c [1]"}, {"c [1]", "a b"}};
         for (String[] both : texts) {
@@ -515,13 +597,17 @@ public final class EdgesOfTermsTest {
         }
     }
 
-    /** Twelve grams that are not shared are 60, five times twelve; eleven are 55, and do not fit 4 either. */
+    /** Grams that are not shared: 12 are 60, which is 12 * 5; 13 are 65, 11 are 55, more than 12 * 4. */
     private static void gramsAtTheRoom() {
-        NearPhrases x = Check.asking("z", "abcdefghijk", "abcdefghij");
+        NearPhrases x = Check.asking("z", "abcdefghijk", "abcdefghij", "abcdefghijkl");
         x.bound(750);
         dueNear(x, 0, 5, 5);
         dueNear(x, 0, 7, 1);
         dueNear(x, 1, 7, 1);
+        dueNear(x, 2, 7, 0);
+        x.bound(700);
+        dueNear(x, 2, 5, 6);
+        dueNear(x, 2, 7, 1);
         x.bound(751);
         dueNear(x, 0, 5, 4);
         dueNear(x, 0, 7, 0);

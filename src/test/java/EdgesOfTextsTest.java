@@ -202,6 +202,10 @@ public final class EdgesOfTextsTest {
         x.drop(3);
         x.drop(0);
         due("keep() behind two drops", Check.keep(x, "b"), 2);
+        NearPhrases asked = Check.asking("a", "b");
+        due("question(5)", asked.question(5), 0);
+        due("keep() behind a question", Check.keep(asked, "a"), 1);
+        due("question(5) then", asked.question(5), 1);
     }
 
     /** The texts that are not the same differ in one thing each: letters, length, digit, kind, order, number. */
@@ -283,6 +287,11 @@ public final class EdgesOfTextsTest {
         due("count(1)", x.count(1), 0);
         due("keep() then", Check.keep(x, "l"), 0);
         due("segment(0, 5), as it comes", x.segment(0, 5), 1);
+        NearPhrases asked = Check.asking("a", "a", "b", "a b");
+        due("near(0, 0)", asked.near(0, 0), 0);
+        asked.drop(0);
+        due("near(0, 0), of the one behind", asked.near(0, 0), 10);
+        due("near(1, 4), of the last", asked.near(1, 4), 2);
     }
 
     private static void dropOfUnknown() {
@@ -340,6 +349,12 @@ public final class EdgesOfTextsTest {
         due("weight(5)", x.weight(5), 1);
         due("count(5)", x.count(5), 5);
         due("weight(5) beside", new NearPhrases().weight(5), 5);
+        NearPhrases asked = Check.asking("a", "a [1]");
+        due("near(0, 0) at first", asked.near(0, 0), 5);
+        asked.weight(20);
+        due("near(0, 0) at 20", asked.near(0, 0), 20);
+        asked.weight(1);
+        due("near(0, 0) at 1", asked.near(0, 0), 1);
     }
 
     private static void weightOutside() {
@@ -364,6 +379,12 @@ public final class EdgesOfTextsTest {
         due("bound(700)", x.bound(700), 0);
         due("count(6)", x.count(6), 700);
         due("bound(5) beside", new NearPhrases().bound(5), 700);
+        NearPhrases asked = Check.asking("a", "a [1]");
+        due("near(0, 5) at first", asked.near(0, 5), 7);
+        asked.bound(0);
+        due("near(0, 5) at 0", asked.near(0, 5), 25);
+        asked.bound(1000);
+        due("near(0, 5) at 1000", asked.near(0, 5), 0);
     }
 
     private static void boundOutside() {
