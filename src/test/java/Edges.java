@@ -7,13 +7,14 @@ import java.nio.file.Path;
  * be laid beside what is tested, and a quotation that the document has no more is found.
  */
 final class Edges {
+    private static final String DOCUMENT = "../shared/DOC.md";
     private final Check check;
     private final String document;
 
     /** The arguments are those that .ci/run gives: the class, then the document. */
     Edges(Check check, String[] args) throws IOException {
         this.check = check;
-        this.document = Files.readString(Path.of(args[1]));
+        this.document = Files.readString(Path.of(args.length > 1 ? args[1] : DOCUMENT));
     }
 
     void sentence(String words, Runnable test) {

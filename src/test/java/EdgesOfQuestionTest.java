@@ -17,12 +17,14 @@ public final class EdgesOfQuestionTest {
     }
 
     private static void ofNear(Edges edges) {
-        edges.sentence("Of a SEGMENT that is KEPT, and THE QUESTION: what = 0 FAR, 1 ALL, 2 SCORE, 3 SHARED, 4 how many STEPS, 5 ROOM",
+        edges.sentence("Of a SEGMENT that is KEPT, and THE QUESTION: what = 0 FAR, 1 ALL, 2 SCORE, 3 SHARED, 4 "
+                + "how many STEPS, 5 ROOM",
                 EdgesOfQuestionTest::leastAndMostOfNear);
         edges.sentence("6 whether it can be a MATCH by LENGTHS, 7 by GRAMS, 8 whether it is one (each 1, 0)",
                 EdgesOfQuestionTest::eachOneOrNothing);
         edges.sentence("9 how many STEPS of TAGS cost something.", EdgesOfQuestionTest::stepsOfTags);
-        edges.sentence("cost something. UNKNOWN; OUTSIDE; STATE: there is no QUESTION.", EdgesOfQuestionTest::nearUnknown);
+        edges.sentence("cost something. UNKNOWN; OUTSIDE; STATE: there is no QUESTION.",
+                EdgesOfQuestionTest::nearUnknown);
         edges.sentence("UNKNOWN; OUTSIDE; STATE: there is no QUESTION.", EdgesOfQuestionTest::nearOutside);
         edges.sentence("OUTSIDE; STATE: there is no QUESTION.", EdgesOfQuestionTest::nearWithNoQuestion);
     }
@@ -33,7 +35,8 @@ public final class EdgesOfQuestionTest {
         edges.sentence("2 the SIGN of the SEGMENT (NONE: IN)", EdgesOfQuestionTest::noSignOfTheSegment);
         edges.sentence("3 that of THE QUESTION (NONE: OUT)", EdgesOfQuestionTest::noSignOfTheQuestion);
         edges.sentence("(NONE: OUT). UNKNOWN: segment; OUTSIDE: what", EdgesOfQuestionTest::stepOfUnknownSegment);
-        edges.sentence("UNKNOWN: segment; OUTSIDE: what; STATE: there is no QUESTION", EdgesOfQuestionTest::stepOutside);
+        edges.sentence("UNKNOWN: segment; OUTSIDE: what; STATE: there is no QUESTION",
+                EdgesOfQuestionTest::stepOutside);
         edges.sentence("OUTSIDE: what; STATE: there is no QUESTION; UNKNOWN: step.",
                 EdgesOfQuestionTest::stepWithNoQuestion);
         edges.sentence("UNKNOWN: step.", EdgesOfQuestionTest::unknownStep);
@@ -46,7 +49,8 @@ public final class EdgesOfQuestionTest {
     }
 
     private static void ofTheQuestion(Edges edges) {
-        edges.sentence("Of THE QUESTION: what = 0 how many SIGNS, 1 WORDS, 2 TAGS, 3 GRAMS it has, 4 what all its SIGNS cost",
+        edges.sentence("Of THE QUESTION: what = 0 how many SIGNS, 1 WORDS, 2 TAGS, 3 GRAMS it has, 4 what all its "
+                + "SIGNS cost",
                 EdgesOfQuestionTest::leastAndMostOfTheQuestion);
         edges.sentence("5 how many MATCHES there are, 6 how many can be one by LENGTHS, 7 by GRAMS, 8 by both",
                 EdgesOfQuestionTest::noneAndAllOfThem);
@@ -91,8 +95,8 @@ public final class EdgesOfQuestionTest {
 
     /** By lengths alone, by grams alone, by both and yet no match, a match, by none of them. */
     private static NearPhrases fiveKinds() {
-        return Check.asking("abcdefghijkl b", "zzzzzzzzzzzz b", "abcdefghijkl b [1]", "b abcdefghijkl", "abcdefghijkx b",
-                "z [1]");
+        return Check.asking("abcdefghijkl b", "zzzzzzzzzzzz b", "abcdefghijkl b [1]", "b abcdefghijkl",
+                "abcdefghijkx b", "z [1]");
     }
 
     private static void eachOneOrNothing() {

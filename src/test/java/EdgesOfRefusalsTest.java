@@ -142,7 +142,8 @@ public final class EdgesOfRefusalsTest {
     }
 
     /** Two objects of the same calls, of which the second has the refused one (twice) besides. */
-    private static void dueNoChange(String state, Supplier<NearPhrases> made, String name, ToIntFunction<NearPhrases> call) {
+    private static void dueNoChange(String state, Supplier<NearPhrases> made, String name,
+            ToIntFunction<NearPhrases> call) {
         NearPhrases without = made.get();
         NearPhrases with = made.get();
         String of = name + " on " + state;

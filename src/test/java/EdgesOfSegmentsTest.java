@@ -28,7 +28,8 @@ public final class EdgesOfSegmentsTest {
     private static void ofSigns(Edges edges) {
         edges.sentence("what = 0 how many letters a WORD has (0: it is a TAG)", EdgesOfSegmentsTest::lettersOfASign);
         edges.sentence("1 the digit of a TAG (0: it is a WORD)", EdgesOfSegmentsTest::digitOfASign);
-        edges.sentence("2 to 13 the codes of the letters of a WORD, from the first on (NONE: it has not so many, or it is a TAG)",
+        edges.sentence("2 to 13 the codes of the letters of a WORD, from the first on (NONE: it has not so many, "
+                + "or it is a TAG)",
                 EdgesOfSegmentsTest::codesOfASign);
         edges.sentence("UNKNOWN: segment, sign; OUTSIDE: what.", EdgesOfSegmentsTest::signUnknown);
         edges.sentence("sign; OUTSIDE: what.", EdgesOfSegmentsTest::signOutside);
@@ -45,7 +46,8 @@ public final class EdgesOfSegmentsTest {
     }
 
     private static void ofGrams(Edges edges) {
-        edges.sentence("In how many SEGMENTS that are KEPT the GRAM of two signs is", EdgesOfSegmentsTest::howManyHaveIt);
+        edges.sentence("In how many SEGMENTS that are KEPT the GRAM of two signs is",
+                EdgesOfSegmentsTest::howManyHaveIt);
         edges.sentence("told by their codes (\"^\" and \"$\" too)", EdgesOfSegmentsTest::edgesOfWords);
         edges.sentence("OUTSIDE: one (\"^\", or a letter \"a\" to \"z\")", EdgesOfSegmentsTest::oneOutside);
         edges.sentence("other (\"$\", or such a letter", EdgesOfSegmentsTest::otherOutside);

@@ -17,7 +17,8 @@ public final class EdgesOfTermsTest {
         edges.sentence("with one space between", EdgesOfTermsTest::oneSpaceBetween);
         edges.sentence("a WORD (1 to 12 letters \"a\" to \"z\")", EdgesOfTermsTest::lettersOfAWord);
         edges.sentence("a TAG (\"[\", a digit 1 to 9, \"]\")", EdgesOfTermsTest::digitOfATag);
-        edges.sentence("An object is used for at most 512 calls after it has been made; what later calls answer is free.",
+        edges.sentence("An object is used for at most 512 calls after it has been made; what later calls answer "
+                + "is free.",
                 EdgesOfTermsTest::fiveHundredAndTwelveCalls);
         edges.sentence("Twelve at most are KEPT, numbered from 0 as they come.", EdgesOfTermsTest::twelveAtMost);
     }
@@ -30,16 +31,20 @@ public final class EdgesOfTermsTest {
         edges.sentence("L is the least number of letters that have to be put in, left out, or put in the place of "
                 + "another one, one by one, to make the one the other one", EdgesOfTermsTest::leastNumberOfLetters);
         edges.sentence("M how many letters the longer one has", EdgesOfTermsTest::longerOne);
-        edges.sentence("FAR of two SEGMENTS: the least cost of making the one the other one", EdgesOfTermsTest::leastCost);
+        edges.sentence("FAR of two SEGMENTS: the least cost of making the one the other one",
+                EdgesOfTermsTest::leastCost);
         edges.sentence("by STEPS, one behind the other, till both are at their ends", EdgesOfTermsTest::tillTheEnds);
         edges.sentence("0 BOTH (the next SIGN of each; two WORDS: ALIKE", EdgesOfTermsTest::bothOfWords);
         edges.sentence("two TAGS: 0, if they are the same, else WEIGHT", EdgesOfTermsTest::bothOfTags);
         edges.sentence("never a WORD and a TAG", EdgesOfTermsTest::neverAWordAndATag);
-        edges.sentence("1 OUT (the next SIGN of the one; what it costs), 2 IN (the next SIGN of the other one; what it costs)",
+        edges.sentence("1 OUT (the next SIGN of the one; what it costs), 2 IN (the next SIGN of the other one; "
+                + "what it costs)",
                 EdgesOfTermsTest::outAndIn);
-        edges.sentence("of several rows of STEPS that which has the lesser STEP at the first place where they are unlike",
+        edges.sentence("of several rows of STEPS that which has the lesser STEP at the first place where they are "
+                + "unlike",
                 EdgesOfTermsTest::lesserStepAtTheFirstPlace);
-        edges.sentence("ALL of two SEGMENTS: what all SIGNS of both cost, together.", EdgesOfTermsTest::leastAndMostOfAll);
+        edges.sentence("ALL of two SEGMENTS: what all SIGNS of both cost, together.",
+                EdgesOfTermsTest::leastAndMostOfAll);
         edges.sentence("SCORE: 1000 less (1000 * FAR) / ALL, rounded up (the quotient).",
                 EdgesOfTermsTest::scoreIsRounded);
         edges.sentence("a score that is the same both ways", EdgesOfTermsTest::scoreBothWays);
@@ -457,8 +462,8 @@ public final class EdgesOfTermsTest {
         dueShared("aaaa", "aa aa", 4);
         dueShared("ab", "ba", 0);
         dueShared("ab", "xab", 2);
-        dueShared("aaaaaaaaaaaa aaaaaaaaaaaa aaaaaaaaaaaa aaaaaaaaa", "aaaaaaaaaaaa aaaaaaaaaaaa aaaaaaaaaaaa a a a a a",
-                41);
+        dueShared("aaaaaaaaaaaa aaaaaaaaaaaa aaaaaaaaaaaa aaaaaaaaa",
+                "aaaaaaaaaaaa aaaaaaaaaaaa aaaaaaaaaaaa a a a a a", 41);
         sharedInRowsUsedAgain();
     }
 

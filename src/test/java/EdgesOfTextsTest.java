@@ -21,7 +21,8 @@ public final class EdgesOfTextsTest {
         edges.sentence("OUTSIDE: code (32 to 126)", EdgesOfTextsTest::codesOutside);
         edges.sentence("FULL: above 48.", EdgesOfTextsTest::aboveFortyEight);
         edges.sentence("THE PAGE is empty: how many letters it had.", EdgesOfTextsTest::blankOfEmptyAndFull);
-        edges.sentence("The place (from 0) of the first letter of THE PAGE that no SEGMENT has there, behind those ahead of it",
+        edges.sentence("The place (from 0) of the first letter of THE PAGE that no SEGMENT has there, behind "
+                + "those ahead of it",
                 EdgesOfTextsTest::placeOfTheFault);
         edges.sentence("how many letters it has, if there is none.", EdgesOfTextsTest::noFault);
     }
@@ -41,7 +42,8 @@ public final class EdgesOfTextsTest {
     private static void ofAskingAndSetting(Edges edges) {
         edges.sentence("THE PAGE is read as THE QUESTION: how many SIGNS it has; THE PAGE is empty then.",
                 EdgesOfTextsTest::signsOfTheQuestion);
-        edges.sentence("how many SIGNS it has; THE PAGE is empty then. STATE: it is none.", EdgesOfTextsTest::askOfNone);
+        edges.sentence("how many SIGNS it has; THE PAGE is empty then. STATE: it is none.",
+                EdgesOfTextsTest::askOfNone);
         edges.sentence("WEIGHT is another one: which it was.", EdgesOfTextsTest::weightThatWas);
         edges.sentence("WEIGHT is another one: which it was. OUTSIDE.", EdgesOfTextsTest::weightOutside);
         edges.sentence("BOUND is another one: which it was.", EdgesOfTextsTest::boundThatWas);

@@ -213,7 +213,8 @@ public final class ModelTest {
             case 4:
             case 5:
                 what = number(3);
-                due(at + "step(" + a + ", " + place + ", " + what + ")", x.step(a, place, what), m.step(a, place, what));
+                due(at + "step(" + a + ", " + place + ", " + what + ")", x.step(a, place, what),
+                        m.step(a, place, what));
                 break;
             default:
                 due(at + "near(" + a + ", " + what + ")", x.near(a, what), m.near(a, what));
