@@ -25,6 +25,7 @@ public final class RulesTest {
         face();
         for (Class<?> inside : NearPhrases.class.getDeclaredClasses()) {
             inside(inside);
+            CHECK.holds(inside + " has no class inside", inside.getDeclaredClasses().length == 0);
         }
         CHECK.holds("at most twelve classes", NearPhrases.class.getDeclaredClasses().length < 12);
         source(Files.readString(Path.of(args[0])));
@@ -76,6 +77,8 @@ public final class RulesTest {
         fields(inside);
         for (Method method : inside.getDeclaredMethods()) {
             CHECK.holds(method + " has seven parameters at most", method.getParameterCount() <= 7);
+            CHECK.holds(method + " has no name of the face",
+                    FACE.stream().noneMatch(head -> head.contains(" " + method.getName() + "(")));
         }
     }
 
@@ -84,9 +87,20 @@ public final class RulesTest {
         for (Field field : type.getDeclaredFields()) {
             int how = field.getModifiers();
             CHECK.holds(field + " is final, if static", !Modifier.isStatic(how) || Modifier.isFinal(how));
+            CHECK.holds(field + " is an int, if static", !Modifier.isStatic(how) || field.getType() == int.class);
+            CHECK.holds(field + " is of a type of the rules", isOfTheRules(field.getType()));
             own += Modifier.isStatic(how) ? 0 : 1;
         }
         CHECK.holds(type + " has twenty fields at most", own <= 20);
+    }
+
+    /** Of what rule 3 leaves, that which the class has need of: numbers, own classes, rows of these. */
+    private static boolean isOfTheRules(Class<?> type) {
+        if (type == int.class || type == boolean.class || type == int[][].class) {
+            return true;
+        }
+        Class<?> element = type.isArray() ? type.getComponentType() : type;
+        return element == int.class || element == boolean.class || element.getEnclosingClass() == NearPhrases.class;
     }
 
     private static void source(String source) {
